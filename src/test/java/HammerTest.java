@@ -95,6 +95,8 @@ public final class HammerTest {
         strokeAt(1110, 9, 6);
         strokeAt(611, 9, 1);
         strokeAt(612, 9, 2);
+        strokeAt(624, 8, 1);
+        strokeAt(625, 8, 2);
         strokeAt(500, 9, 1);
         strokeAt(499, 9, 1);
         strokeAt(20, 9, 1);

@@ -42,6 +42,7 @@ public final class PieceTest {
         forge.addPiece('w');
         Check.make(forge, 1);
         forge.putIn(1);
+        forge.advance(1);
         forge.scrap(1);
         forge.addPiece('b');
         Check.same("a new piece has nothing of a scrapped one", "2b:20/0/10", Check.pieceLine(forge, 2));

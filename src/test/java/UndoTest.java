@@ -54,6 +54,25 @@ public final class UndoTest {
         Check.make(forge, 1, 2, 3, 4);
         undone(forge, () -> forge.assemble(1, 2, 3, 4));
         Check.same("no bird is left", 0, forge.birdTotal());
+        Check.same("all four have passed", 1.0f, forge.passShare());
+        forge.setBellows(5);
+        forge.advance(2);
+        undone(forge, () -> forge.addCoal(1));
+        Check.yes("consistent after undo", forge.isConsistent());
+        passedTestUndone();
+    }
+
+    private static void passedTestUndone() {
+        BirdForge forge = new BirdForge();
+        forge.addHammer(9);
+        forge.addPiece('b');
+        forge.addPiece('n');
+        Check.make(forge, 1, 2);
+        forge.undo();
+        Check.same("not passed any more", false, forge.hasPassed(2));
+        Check.same("one test", 1.0f, forge.passShare());
+        Check.yes("passes again", forge.test(2));
+        Check.same("two tests", 1.0f, forge.passShare());
     }
 
     private static void undone(BirdForge forge, Check.Call change) {
