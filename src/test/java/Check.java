@@ -37,12 +37,13 @@ final class Check {
         });
     }
 
-    /** The answer as text, or the plain name of the exception's class. */
+    /** The answer as text, or the plain name of the exception's class; the machine's own exceptions are told apart. */
     static String outcome(Call call) {
         try {
             return String.valueOf(call.answer());
         } catch (RuntimeException thrown) {
-            return thrown.getClass().getSimpleName();
+            boolean byDivision = String.valueOf(thrown.getMessage()).contains("by zero");
+            return (byDivision ? "machine's " : "") + thrown.getClass().getSimpleName();
         }
     }
 

