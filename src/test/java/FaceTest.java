@@ -1,101 +1,30 @@
+import java.io.IOException;
 import java.lang.reflect.Constructor;
 import java.lang.reflect.Field;
 import java.lang.reflect.Method;
 import java.lang.reflect.Modifier;
+import java.nio.charset.StandardCharsets;
+import java.nio.file.Files;
+import java.nio.file.Path;
+import java.util.ArrayList;
+import java.util.List;
 import java.util.Set;
 import java.util.TreeSet;
+import java.util.regex.Matcher;
+import java.util.regex.Pattern;
 
-/** The class has just the document's face: no member is missing, and no other one can be seen. */
+/** The class has just the document's face, word for word, and no other member can be seen; run from the root. */
 public final class FaceTest {
-    private static final String NO_PIECE = " NoSuchElementException";
-    private static final String NO_INDEX = " IndexOutOfBoundsException";
-    private static final String ARGUMENT = " IllegalArgumentException";
-    private static final String STATE = " IllegalStateException";
-    private static final String UNSUPPORTED = " UnsupportedOperationException";
-    private static final String ARITHMETIC = " ArithmeticException";
-
-    private static final String[] METHODS = {
-        "int addCoal(int)" + ARGUMENT + STATE,
-        "int setBellows(int)" + ARGUMENT,
-        "int advance(int)" + ARGUMENT,
-        "int addPiece(char)" + ARGUMENT + STATE,
-        "int addHammer(int)" + ARGUMENT + STATE,
-        "int putIn(int)" + NO_PIECE + STATE,
-        "int takeOut(int)" + NO_PIECE + STATE,
-        "int hammer(int,int)" + NO_PIECE + NO_INDEX + STATE + UNSUPPORTED,
-        "int quench(int)" + NO_PIECE + STATE + UNSUPPORTED,
-        "boolean test(int)" + NO_PIECE + STATE + UNSUPPORTED,
-        "int assemble(int,int,int,int)" + NO_PIECE + ARGUMENT + STATE,
-        "int scrap(int)" + NO_PIECE,
-        "int time()",
-        "int furnace()",
-        "int bellows()",
-        "int coal()",
-        "int coalMinutes()" + ARITHMETIC,
-        "int piecesInFurnace()",
-        "int furnaceAfter(int)" + ARGUMENT,
-        "int pieceCount()",
-        "boolean exists(int)",
-        "int pieceAt(int)" + NO_INDEX,
-        "char kind(int)" + NO_PIECE,
-        "int temperature(int)" + NO_PIECE,
-        "int stages(int)" + NO_PIECE,
-        "int hardness(int)" + NO_PIECE,
-        "boolean isInFurnace(int)" + NO_PIECE,
-        "boolean isQuenched(int)" + NO_PIECE,
-        "boolean hasPassed(int)" + NO_PIECE,
-        "int stroke(int,int)" + NO_PIECE + NO_INDEX,
-        "int minutesToCool(int,int)" + NO_PIECE + ARGUMENT + STATE,
-        "int minutesToCoolAlone(int,int)" + NO_PIECE + ARGUMENT + STATE,
-        "int pieceAtRank(int)" + NO_INDEX,
-        "int hammerCount()",
-        "int weight(int)" + NO_INDEX,
-        "int wear(int)" + NO_INDEX,
-        "int heaviestHammer()" + NO_PIECE,
-        "int strokeTotal()",
-        "int birdTotal()",
-        "long burntTotal()",
-        "double meanHardness()" + ARITHMETIC,
-        "float passShare()" + ARITHMETIC,
-        "boolean isConsistent()",
-        "int append(char)" + STATE,
-        "int run()" + ARGUMENT + UNSUPPORTED,
-        "int errorPosition()" + NO_PIECE,
-        "int failedCommand()" + NO_PIECE,
-        "int writePiece(int)" + NO_PIECE,
-        "int writeFurnace()",
-        "char outputAt(int)" + NO_INDEX,
-        "int undo()" + STATE,
-        "void save()",
-        "void restore()" + STATE,
-    };
-
-    public static void main(String[] args) {
+    public static void main(String[] args) throws IOException {
         Class<BirdForge> type = BirdForge.class;
-        Check.yes("public and final", Modifier.isPublic(type.getModifiers()) && Modifier.isFinal(type.getModifiers()));
+        Check.yes("the face in Document.java is the document's", Document.isCopied());
+        Check.same("declarations, word for word", Document.face(), declarations());
         Check.same("package", "", type.getPackageName());
-        Set<String> open = new TreeSet<>();
-        Set<String> hidden = new TreeSet<>();
-        for (Method method : type.getDeclaredMethods()) {
-            if (Modifier.isPrivate(method.getModifiers())) {
-                hidden.add(method.getName());
-            } else {
-                open.add(text(method));
-            }
-            Check.same("static and not private: " + method.getName(), false,
-                    Modifier.isStatic(method.getModifiers()) && !Modifier.isPrivate(method.getModifiers()));
-        }
-        Check.same("methods", new TreeSet<>(Set.of(METHODS)), open);
-        for (Method method : type.getMethods()) {
-            Check.same("private method named like a public one", false, hidden.contains(method.getName()));
-        }
+        methods(type);
+        constructors(type.getDeclaredConstructors());
         for (Field field : type.getDeclaredFields()) {
             Check.yes("private field " + field.getName(), Modifier.isPrivate(field.getModifiers()));
         }
-        Constructor<?>[] constructors = type.getDeclaredConstructors();
-        Check.same("constructors", 1, constructors.length);
-        Check.yes("public constructor", Modifier.isPublic(constructors[0].getModifiers()));
-        Check.same("constructor's arguments", 0, constructors[0].getParameterCount());
         for (Class<?> inside : type.getDeclaredClasses()) {
             Check.yes("private static class " + inside.getSimpleName(), Modifier.isStatic(inside.getModifiers())
                     && Modifier.isPrivate(inside.getModifiers()));
@@ -103,16 +32,78 @@ public final class FaceTest {
         Check.finish();
     }
 
+    /** The public declarations of the program's text, written as in the document. */
+    private static List<String> declarations() throws IOException {
+        String text = Files.readString(Path.of("src/main/java/BirdForge.java"), StandardCharsets.UTF_8);
+        List<String> found = new ArrayList<>();
+        Matcher matcher = Pattern.compile("\\bpublic\\s[^{;]*[{;]").matcher(text);
+        while (matcher.find()) {
+            String declaration = matcher.group().replaceAll("\\s+", " ");
+            boolean isMethod = declaration.contains("(");
+            found.add(isMethod ? declaration.replace(" {", ";") : declaration);
+        }
+        return found;
+    }
+
+    private static void methods(Class<BirdForge> type) {
+        Set<String> open = new TreeSet<>();
+        Set<String> openNames = new TreeSet<>();
+        Set<String> hidden = hiddenNames(type);
+        for (Class<?> inside : type.getDeclaredClasses()) {
+            hidden.addAll(hiddenNames(inside));
+        }
+        for (Method method : type.getDeclaredMethods()) {
+            if (!Modifier.isPrivate(method.getModifiers())) {
+                open.add(text(method));
+                openNames.add(method.getName());
+            }
+        }
+        Check.same("methods", due(), open);
+        hidden.retainAll(openNames);
+        Check.same("private methods named like a public one", Set.of(), hidden);
+    }
+
+    private static Set<String> hiddenNames(Class<?> type) {
+        Set<String> names = new TreeSet<>();
+        for (Method method : type.getDeclaredMethods()) {
+            if (Modifier.isPrivate(method.getModifiers())) {
+                names.add(method.getName());
+            }
+        }
+        return names;
+    }
+
+    private static void constructors(Constructor<?>[] constructors) {
+        Check.same("constructors", 1, constructors.length);
+        Check.yes("public constructor", Modifier.isPublic(constructors[0].getModifiers()));
+        Check.same("constructor's arguments", 0, constructors[0].getParameterCount());
+    }
+
+    /** The document's methods, without the names of their arguments. */
+    private static Set<String> due() {
+        Set<String> due = new TreeSet<>();
+        for (String line : Document.face()) {
+            if (line.contains(" class ") || line.equals("public BirdForge();")) {
+                continue;
+            }
+            due.add(line.replaceAll("(int|char) \\w+(?=[,)])", "$1").replace(";", ""));
+        }
+        return due;
+    }
+
     private static String text(Method method) {
-        StringBuilder text = new StringBuilder();
-        text.append(method.getReturnType().getSimpleName()).append(' ').append(method.getName()).append('(');
-        for (int i = 0; i < method.getParameterCount(); i++) {
-            text.append(i > 0 ? "," : "").append(method.getParameterTypes()[i].getSimpleName());
+        StringBuilder text = new StringBuilder(Modifier.toString(method.getModifiers()));
+        text.append(' ').append(method.getReturnType().getSimpleName()).append(' ').append(method.getName());
+        text.append('(').append(names(method.getParameterTypes())).append(')');
+        boolean throwsAny = method.getExceptionTypes().length > 0;
+        return text.append(throwsAny ? " throws " : "").append(names(method.getExceptionTypes())).toString();
+    }
+
+    private static String names(Class<?>[] types) {
+        List<String> names = new ArrayList<>();
+        for (Class<?> type : types) {
+            names.add(type.getSimpleName());
         }
-        text.append(')');
-        for (Class<?> thrown : method.getExceptionTypes()) {
-            text.append(' ').append(thrown.getSimpleName());
-        }
-        return text.toString();
+        return String.join(", ", names);
     }
 }
